@@ -375,6 +375,25 @@ public final class ProofMillPromises {
         due("its A", none.proof(0), 15);
         due("its B", none.proof(1), 22);
         due("its C", none.proof(2), 15 * 3 + 22 * 2 - 2 * 3 * 6);
+        for (int i = 1; i < 16; i++) {
+            privateVariable(i);
+        }
+    }
+
+    /** 1 * 6 = 2 * variable i, which is 3: with TAU 3 the first point weighs 2, H is 3 / 2 and T is 8. */
+    static void privateVariable(int i) {
+        ProofMill x = new ProofMill();
+        x.value(i, 3);
+        x.term(0, 0, 1);
+        x.term(1, 0, 6);
+        x.term(2, i, 2);
+        x.constraint();
+        x.setup(3, 7, 11, 13, 1);
+        due("prove(0, 0) with variable " + i, x.prove(0, 0), true);
+        due("A with variable " + i, x.proof(0), 7 + 2);
+        due("B with variable " + i, x.proof(1), 11 + 12);
+        due("C with variable " + i, x.proof(2), 3 * 4 + 12);
+        due("verify() with variable " + i, x.verify(), true);
     }
 
     static void alter() {
