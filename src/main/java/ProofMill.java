@@ -333,13 +333,17 @@ public final class ProofMill {
             return size;
         }
 
+        // Halving the exponent with each doubling of N keeps every divisor a constant; P - 1 is 119 * 2^23, so
+        // nothing is left over.
         void fit(int constraints) {
             size = LEAST_SIZE;
+            int exponent = (P - 1) / LEAST_SIZE;
             while (size < constraints && size < MOST_CONSTRAINTS) {
                 size *= 2;
+                exponent /= 2;
             }
             oneOverSize = Field.ratio(1, size);
-            int back = Field.ratio(1, Field.power(GENERATOR, (P - 1) / size));
+            int back = Field.ratio(1, Field.power(GENERATOR, exponent));
             backRoots[0] = 1;
             for (int j = 1; j < size; j++) {
                 backRoots[j] = Field.product(backRoots[j - 1], back);

@@ -1,7 +1,10 @@
+import java.io.IOException;
 import java.lang.reflect.Constructor;
 import java.lang.reflect.Field;
 import java.lang.reflect.Method;
 import java.lang.reflect.Modifier;
+import java.nio.file.Files;
+import java.nio.file.Path;
 import java.util.ArrayList;
 import java.util.Arrays;
 import java.util.List;
@@ -38,7 +41,22 @@ public final class ProofMillFace {
         }
     }
 
-    public static void main(String[] args) {
+    /** Reflection does not tell the names of parameters: so the document's own lines are looked for in the source. */
+    static void asWritten() throws IOException {
+        String source = Files.readString(Path.of("src/main/java/ProofMill.java")).replaceAll("\\s+", " ");
+        String document = Files.readString(Path.of("../shared/DOC.md"));
+        int start = document.indexOf("```java\n") + "```java\n".length();
+        int found = 0;
+        for (String line : document.substring(start, document.indexOf("```", start)).split("\n")) {
+            String member = line.strip().replaceAll(";$", "").replaceAll("\\s+", " ");
+            if (member.equals("}")) continue;
+            check(source.contains(member), "not in the source as the document writes it: " + member);
+            found++;
+        }
+        check(found == FACE.length + 1, "the document's face has " + found + " lines, with the class's own");
+    }
+
+    public static void main(String[] args) throws IOException {
         Class<?> c = ProofMill.class;
         check(Modifier.isPublic(c.getModifiers()) && Modifier.isFinal(c.getModifiers()), "the class is not public and final");
         List<String> shown = new ArrayList<>();
@@ -60,8 +78,11 @@ public final class ProofMillFace {
             check(!Modifier.isPrivate(m.getModifiers()) || !names.contains(m.getName()), "a private method with a public one's name: " + m);
         }
         for (Class<?> inside : c.getDeclaredClasses()) {
-            check(Modifier.isStatic(inside.getModifiers()), "a class inside that is not static: " + inside);
+            int kind = inside.getModifiers();
+            check(Modifier.isStatic(kind), "a class inside that is not static: " + inside);
+            check(!Modifier.isPublic(kind) && !Modifier.isProtected(kind), "a class inside that is shown: " + inside);
         }
+        asWritten();
         check(new TreeSet<>(shown).equals(new TreeSet<>(Arrays.asList(FACE))), "the face is " + new TreeSet<>(shown));
         System.out.println(wrong == 0 ? "the face is the document's" : wrong + " faults of the face");
         if (wrong != 0) {
